@@ -174,6 +174,7 @@ public final class DiskMachine {
     private static final class Console {
         private static final int INPUT_ROOM = 64;
         private static final int TEXT_ROOM = 256;
+        private static final int TEXT_LAST = TEXT_ROOM - 1;
 
         private final int[] input = new int[INPUT_ROOM];
         private int firstInput;
@@ -205,7 +206,7 @@ public final class DiskMachine {
         }
 
         void append(int b) {
-            output[outputCount % TEXT_ROOM] = b;
+            output[outputCount & TEXT_LAST] = b;
             outputCount++;
         }
 
@@ -218,7 +219,7 @@ public final class DiskMachine {
         }
 
         int writtenByte(int i) {
-            return output[i % TEXT_ROOM];
+            return output[i & TEXT_LAST];
         }
     }
 
@@ -671,9 +672,7 @@ public final class DiskMachine {
                 case 2:
                     return moveByAddress(y);
                 case 3:
-                    int change = (y & 1) == 0 ? 1 : -1;
-                    setPair(y >> 1, pair(y >> 1) + change);
-                    return 5;
+                    return stepPair(y);
                 case 4:
                     setValue(y, arithmetic.oneMore(value(y)));
                     return y == M ? 10 : 5;
@@ -699,6 +698,12 @@ public final class DiskMachine {
                 setPair(PAIR_HL, total);
             }
             return 10;
+        }
+
+        private int stepPair(int y) {
+            int p = y >> 1;
+            setPair(p, (y & 1) == 0 ? pair(p) + 1 : pair(p) - 1);
+            return 5;
         }
 
         private int moveByAddress(int y) {
@@ -777,10 +782,7 @@ public final class DiskMachine {
                     pc = pair(PAIR_HL);
                     return 5;
                 case 6:
-                    int word = pop();
-                    registers[A] = word >> 8 & BYTE;
-                    flags.unpack(word);
-                    return 10;
+                    return popAccumulator();
                 case 7:
                     sp = pair(PAIR_HL);
                     return 5;
@@ -788,6 +790,13 @@ public final class DiskMachine {
                     setPair(y >> 1, pop());
                     return 10;
             }
+        }
+
+        private int popAccumulator() {
+            int word = pop();
+            registers[A] = word >> 8;
+            flags.unpack(word);
+            return 10;
         }
 
         private int jumpIf(boolean holds) {
@@ -822,15 +831,9 @@ public final class DiskMachine {
                     registers[A] = takeFromPort(nextByte());
                     return 10;
                 case 4:
-                    int below = memory.wordAt(sp);
-                    memory.setWord(sp, pair(PAIR_HL));
-                    setPair(PAIR_HL, below);
-                    return 18;
+                    return swapWithStack();
                 case 5:
-                    int old = pair(PAIR_DE);
-                    setPair(PAIR_DE, pair(PAIR_HL));
-                    setPair(PAIR_HL, old);
-                    return 4;
+                    return swapPairs();
                 case 6:
                     interruptsOn = false;
                     return 4;
@@ -839,6 +842,20 @@ public final class DiskMachine {
                     justSetOn = true;
                     return 4;
             }
+        }
+
+        private int swapWithStack() {
+            int word = memory.wordAt(sp);
+            memory.setWord(sp, pair(PAIR_HL));
+            setPair(PAIR_HL, word);
+            return 18;
+        }
+
+        private int swapPairs() {
+            int word = pair(PAIR_DE);
+            setPair(PAIR_DE, pair(PAIR_HL));
+            setPair(PAIR_HL, word);
+            return 4;
         }
 
         private void sendToPort(int port, int b) {

@@ -8,6 +8,7 @@ public final class ArithmeticTest {
         everyOperationOverAllBytes();
         everyRegisterIsTaken();
         accumulatorWithItself();
+        turnsOverAllBytes();
         decimalOverAllStates();
         decimalSums();
         decimalByHand();
@@ -92,6 +93,24 @@ public final class ArithmeticTest {
             for (int a = 0; a < 256; a++) {
                 Checks.same("operation " + y + " of A with itself",
                     perform(0x87 + 8 * y, a, 1), due(y, a, a, 1));
+            }
+        }
+    }
+
+    private static void turnsOverAllBytes() {
+        for (int a = 0; a < 256; a++) {
+            for (int carry = 0; carry < 2; carry++) {
+                int flags = 0xD6 + carry;
+                int top = a / 128;
+                int low = a % 2;
+                int left = a * 2 % 256;
+                int right = a / 2;
+                String name = "turn of " + a + " with " + carry + ", ";
+                Checks.same(name + 0, perform(0x07, a, flags), (left + top) * 256 + 0xD6 + top);
+                Checks.same(name + 1, perform(0x0F, a, flags), (right + 128 * low) * 256 + 0xD6 + low);
+                Checks.same(name + 2, perform(0x17, a, flags), (left + carry) * 256 + 0xD6 + top);
+                Checks.same(name + 3, perform(0x1F, a, flags), (right + 128 * carry) * 256 + 0xD6 + low);
+                Checks.same(name + 5, perform(0x2F, a, flags), (255 - a) * 256 + flags);
             }
         }
     }

@@ -13,6 +13,8 @@ public final class ControllerTest {
         interruptsAndWaitsCount();
         sectorIsKept();
         addressChangesAtAnyTime();
+        addressBytesAreReplaced();
+        nothingMovesBehindTheLast();
         addressWraps();
         callsAreMade();
         callReplacesAnother();
@@ -192,6 +194,35 @@ public final class ControllerTest {
         Checks.same("byte 5 behind it", machine.read(0x6F1), diskByte(133));
         Checks.same("byte 3 at the old one", machine.read(0x401), diskByte(131));
         Checks.same("not beyond", machine.read(0x402), 0);
+    }
+
+    private static void addressBytesAreReplaced() {
+        DiskMachine machine = told(0, 0xFFFF, 0, "00");
+        out(machine, 3, 0);
+        controller("low byte 0", machine, 0, 0, 0xFF00);
+        out(machine, 4, 0x12);
+        controller("high byte 12", machine, 0, 0, 0x1200);
+        out(machine, 3, 0xFF);
+        out(machine, 4, 0);
+        controller("low byte FF, high byte 0", machine, 0, 0, 0x00FF);
+    }
+
+    /** The last instruction leaves cycles for two bytes, but only one is left in the sector. */
+    private static void nothingMovesBehindTheLast() {
+        DiskMachine machine = told(0, 0x300, 0, "00");
+        fillDisk(machine);
+        out(machine, 6, 1);
+        machine.step(188);
+        machine.write(machine.register(8), 0x3C);
+        machine.write(machine.register(8) + 1, 0x3C);
+        machine.step(2);
+        controller("behind 762", machine, BUSY, 63, 0x33F);
+        machine.write(machine.register(8), 0xE3);
+        machine.put(9, 0xE00);
+        machine.step(1);
+        controller("behind 780", machine, DONE, 64, 0x340);
+        Checks.same("the last byte", machine.read(0x33F), diskByte(63));
+        Checks.same("none behind it", machine.read(0x340), 0);
     }
 
     private static void addressWraps() {
