@@ -2,7 +2,9 @@
 public final class ArithmeticTest {
     private static final int HALF = 0x10;
     private static final int CARRY = 1;
-    private static final DiskMachine MACHINE = new DiskMachine();
+    private static final int CALLS_OF_ONE = 8;
+
+    private static Machine machine = new Machine();
 
     public static void main(String[] args) {
         everyOperationOverAllBytes();
@@ -44,12 +46,24 @@ public final class ArithmeticTest {
     }
 
     private static int perform(int code, int a, int flags) {
-        MACHINE.put(8, 0x100);
-        MACHINE.write(0x100, code);
-        MACHINE.put(7, a);
-        MACHINE.put(6, flags);
-        MACHINE.step(1);
-        return MACHINE.register(7) * 256 + MACHINE.register(6);
+        return perform(code, 0, a, flags);
+    }
+
+    private static int perform(int code, int b, int a, int flags) {
+        if (!machine.hasCallsLeft(CALLS_OF_ONE)) {
+            machine = new Machine();
+        }
+        machine.put(0, b);
+        machine.put(8, 0x100);
+        machine.write(0x100, code);
+        return performed(a, flags);
+    }
+
+    private static int performed(int a, int flags) {
+        machine.put(7, a);
+        machine.put(6, flags);
+        machine.step(1);
+        return machine.register(7) * 256 + machine.register(6);
     }
 
     private static void everyOperationOverAllBytes() {
@@ -57,10 +71,10 @@ public final class ArithmeticTest {
             for (int a = 0; a < 256; a++) {
                 for (int b = 0; b < 256; b++) {
                     for (int carry = 0; carry < 2; carry++) {
-                        MACHINE.put(0, b);
                         int flags = carry + (a + b & 1) * 0xD4;
                         String name = "operation " + y + " of " + a + ", " + b + ", " + carry;
-                        Checks.same(name, perform(0x80 + 8 * y, a, flags), due(y, a, b, carry));
+                        Checks.same(name, perform(0x80 + 8 * y, b, a, flags),
+                            due(y, a, b, carry));
                     }
                 }
             }
@@ -69,22 +83,22 @@ public final class ArithmeticTest {
 
     private static void everyRegisterIsTaken() {
         for (int y = 0; y < 8; y++) {
-            for (int k = 0; k < 6; k++) {
-                MACHINE.put(k, 0x1B + 0x0D * k);
-            }
-            int place = (MACHINE.register(4) * 256 + MACHINE.register(5)) % 4096;
-            MACHINE.write(place, 0xE7);
-            MACHINE.write(0x101, 0xB9);
             for (int z = 0; z < 7; z++) {
+                machine = Programs.machineWith(Programs.hex(0x80 + 8 * y + z));
+                for (int k = 0; k < 6; k++) {
+                    machine.put(k, 0x1B + 0x0D * k);
+                }
+                int place = (machine.register(4) * 256 + machine.register(5)) % 4096;
+                machine.write(place, 0xE7);
                 int b = z == 6 ? 0xE7 : 0x1B + 0x0D * z;
-                Checks.same("operation " + y + " with register " + z,
-                    perform(0x80 + 8 * y + z, 0x5A, 1), due(y, 0x5A, b, 1));
-                Checks.same("register " + z + " stays", z == 6 ? MACHINE.read(place)
-                    : MACHINE.register(z), b);
+                String name = "operation " + y + " with register " + z;
+                Checks.same(name, performed(0x5A, 1), due(y, 0x5A, b, 1));
+                Checks.same(name + ", which stays", z == 6 ? machine.read(place)
+                    : machine.register(z), b);
             }
-            Checks.same("operation " + y + " with n", perform(0xC6 + 8 * y, 0x5A, 1),
-                due(y, 0x5A, 0xB9, 1));
-            Checks.same("PC behind n", MACHINE.register(8), 0x102);
+            machine = Programs.machineWith(Programs.hex(0xC6 + 8 * y) + " B9");
+            Checks.same("operation " + y + " with n", performed(0x5A, 1), due(y, 0x5A, 0xB9, 1));
+            Checks.same("PC behind n", machine.register(8), 0x102);
         }
     }
 
@@ -135,8 +149,7 @@ public final class ArithmeticTest {
     private static void decimalSums() {
         for (int a = 0; a < 100; a++) {
             for (int b = 0; b < 100; b++) {
-                MACHINE.put(0, b / 10 * 16 + b % 10);
-                int total = perform(0x80, a / 10 * 16 + a % 10, 0);
+                int total = perform(0x80, b / 10 * 16 + b % 10, a / 10 * 16 + a % 10, 0);
                 int got = perform(0x27, total / 256, total % 256);
                 int due = (a + b) % 100;
                 Checks.same("decimal sum", got / 256, due / 10 * 16 + due % 10);

@@ -5,25 +5,29 @@ final class Checks {
         void make();
     }
 
+    private static String sentence = "";
     private static int made = 0;
     private static int wrong = 0;
 
     private Checks() {
     }
 
+    /** Tells which words of the document the checks that follow are about. */
+    static void sentence(String words) {
+        sentence = words + " | ";
+    }
+
     static void same(String what, long got, long due) {
         made++;
         if (got != due) {
-            wrong++;
-            System.out.println(what + ": answered " + got + ", due is " + due);
+            wrong(what + ": answered " + got + ", due is " + due);
         }
     }
 
     static void same(String what, String got, String due) {
         made++;
         if (!got.equals(due)) {
-            wrong++;
-            System.out.println(what + ":\n  answered " + got + "\n  due is   " + due);
+            wrong(what + ":\n  answered " + got + "\n  due is   " + due);
         }
     }
 
@@ -43,6 +47,11 @@ final class Checks {
             got = e.getClass().getName();
         }
         same(what + " throws", got, due.getName());
+    }
+
+    private static void wrong(String line) {
+        wrong++;
+        System.out.println(sentence + line);
     }
 
     static void end() {
