@@ -42,6 +42,10 @@ public final class ControllerTest {
         bytesComeEachTwelveCycles();
         commandInItsLastInstruction();
         programChangesASector();
+        portsAreApart();
+        bytesMoveAsTheyAreThen();
+        callBehindTheOneThatSetsThemOn();
+        callInAnInterruptsCycles();
         Checks.end();
     }
 
@@ -251,18 +255,25 @@ public final class ControllerTest {
         }
     }
 
+    /** The sector ends with 2, 3, 8 or 10 cycles more than it needs. */
     private static void leftOverCyclesEndWithTheSector() {
         Checks.sentence("From when it is busy: none are left over from before");
-        Machine machine = busy(191);
-        Programs.load(machine, machine.register(8), "E3");
-        machine.step(1);
-        Ports.shows("done behind 782", machine, DONE, 64, 0x340);
-        machine.step(2);
+        endsWith(191, "E3", 782);
+        endsWith(191, "06 00", 771);
+        endsWith(190, "22 00 05", 776);
+        endsWith(190, "E3", 778);
+    }
+
+    private static void endsWith(int before, String last, int cycles) {
+        Machine machine = busy(before);
+        Programs.load(machine, machine.register(8), last);
+        Checks.same("cycles of the last one", machine.step(1), cycles - 4 * before);
+        Ports.shows("done behind " + cycles, machine, DONE, 64, 0x340);
         Ports.out(machine, 6, 1);
         machine.step(2);
-        Checks.same("none behind 8", machine.told(4), 0);
+        Checks.same("none behind 8, behind " + cycles, machine.told(4), 0);
         machine.step(1);
-        Checks.same("one behind 12", machine.told(4), 1);
+        Checks.same("one behind 12, behind " + cycles, machine.told(4), 1);
     }
 
     private static void interruptsAndWaitsCount() {
@@ -759,5 +770,91 @@ public final class ControllerTest {
         for (int i = 0; i < 64; i++) {
             Checks.same("byte " + i, machine.readDisk(4032 + i), Ports.diskByte(448 + i) + 1 & 255);
         }
+    }
+
+    /** One byte more to one port, or from it, must not change what the others were told. */
+    private static void portsAreApart() {
+        Checks.sentence("Out 1 to out 5: each tells its own");
+        for (int port = 0; port < 8; port++) {
+            if (port != 6) {
+                Machine machine = Ports.told(2, 0x300, 9, "76");
+                machine.writeDisk(64 * 2, 52);
+                machine.writeDisk(64 * 11, 61);
+                Ports.out(machine, port, 11);
+                outcome("out " + port, machine, port == 2 ? 61 : 52,
+                    port == 3 ? 0x30B : port == 4 ? 0xB00 : 0x300, port == 5 ? 3 : 1);
+                Checks.same("written behind out " + port, machine.written(), port == 1 ? 1 : 0);
+            }
+        }
+        for (int port = 0; port < 8; port++) {
+            Machine machine = Ports.told(2, 0x300, 9, "76");
+            machine.writeDisk(64 * 2, 52);
+            Programs.load(machine, 0x500, "DB " + Programs.hex(port));
+            machine.put(8, 0x500);
+            machine.step(1);
+            machine.put(8, 0x100);
+            outcome("in " + port, machine, 52, 0x300, 1);
+        }
+    }
+
+    private static void outcome(String name, Machine machine, int first, int address, int wanted) {
+        Ports.shows(name, machine, 0, 0, address);
+        Ports.out(machine, 6, 1);
+        machine.step(193);
+        Ports.shows(name + ", done", machine, DONE, 64, address + 64);
+        Checks.same(name + ", the first byte", machine.read(address), first);
+        Checks.same(name + ", wanted", machine.told(2), wanted);
+    }
+
+    private static void bytesMoveAsTheyAreThen() {
+        Checks.sentence("byte by byte while the processor goes on: each as it is when it moves");
+        Machine machine = busy(6);
+        machine.writeDisk(128, 11);
+        machine.writeDisk(130, 12);
+        machine.step(186);
+        Checks.same("the first had moved", machine.read(0x300), Ports.diskByte(128));
+        Checks.same("the second had moved", machine.read(0x301), Ports.diskByte(129));
+        Checks.same("the third had not", machine.read(0x302), 12);
+        Machine back = Ports.told(2, 0x300, 0, "00");
+        back.write(0x300, 21);
+        back.write(0x301, 22);
+        Ports.out(back, 6, 2);
+        back.step(3);
+        back.write(0x300, 31);
+        back.write(0x301, 32);
+        back.step(3);
+        Checks.same("the first had moved", back.readDisk(128), 21);
+        Checks.same("the second had not", back.readDisk(129), 32);
+        Checks.same("the rest has not yet", back.readDisk(130), 0);
+    }
+
+    private static void callBehindTheOneThatSetsThemOn() {
+        Checks.sentence("none comes before the next instruction is done: the controller's, too");
+        Machine machine = Ports.told(2, 0x300, 11, "00");
+        Ports.out(machine, 6, 1);
+        machine.step(191);
+        Programs.load(machine, machine.register(8), "FB 3C 3C");
+        machine.step(1);
+        Checks.same("wanted", machine.told(2), 3);
+        Checks.same("on", machine.told(1), 1);
+        Checks.same("the next is done", machine.step(1), 5);
+        Checks.same("then it comes", machine.step(1), 11);
+        Checks.same("PC", machine.register(8), 24);
+        Checks.same("A", machine.register(7), 1);
+    }
+
+    private static void callInAnInterruptsCycles() {
+        Checks.sentence("Behind the last one .. the interrupt is wanted: in another one's cycles");
+        Machine machine = Ports.told(2, 0x300, 11, "FB");
+        Ports.out(machine, 6, 1);
+        machine.step(190);
+        Checks.same("63 behind 760", machine.told(4), 63);
+        machine.want(6);
+        Checks.same("the other one", machine.step(1), 11);
+        Checks.same("PC", machine.register(8), 48);
+        Ports.shows("done behind 771", machine, DONE, 64, 0x340);
+        Checks.same("wanted", machine.told(2), 3);
+        Checks.same("but they are off", machine.step(1), 4);
+        Checks.same("still wanted", machine.told(2), 3);
     }
 }
